@@ -194,14 +194,16 @@ public final class Discoverhall {
     public int joined(char kind, int one, int other)
             throws IndexOutOfBoundsException, IllegalArgumentException, IllegalStateException {
         existingTerm(one);
-        existingTerm(other);
+        if (!Term.isOfOneTerm(kind)) {
+            existingTerm(other);
+        }
         if (!Term.isJoinedKind(kind)) {
             throw new IllegalArgumentException("there is no such kind");
         }
         if (terms.isFull()) {
             throw new IllegalStateException("there are 8 terms");
         }
-        return terms.add(new Term(kind, one, other));
+        return terms.add(new Term(kind, one, Term.isOfOneTerm(kind) ? NONE : other));
     }
 
     public int revise(int term, int apart)
@@ -1107,6 +1109,11 @@ public final class Discoverhall {
 
         static boolean isJoinedKind(char kind) {
             return kind == 'a' || kind == 'o' || kind == 't';
+        }
+
+        /** By 't' the other term has no meaning, so that it need not be there. */
+        static boolean isOfOneTerm(char kind) {
+            return kind == 't';
         }
 
         static int wordsAsked(char kind) {

@@ -365,7 +365,9 @@ final class Model {
 
     int joined(char kind, int one, int other) {
         search(one);
-        search(other);
+        if (kind != 't') {
+            search(other);
+        }
         oneOf(kind, "aot");
         full(searches.size() == 8);
         Search added = new Search();

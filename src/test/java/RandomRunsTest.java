@@ -10,11 +10,11 @@ public final class RandomRunsTest {
     private static final int RUNS = 300;
     private static final int STEPS = 260;
     private static final String[] WORDS = {"a", "b", "ab", "c", "abc", "d"};
-    // What each call takes: paper, tag, term, day, boolean, custodian, person, number to 9, level, hundredths,
+    // What each call takes: paper, tag, term, a term or often none, day, boolean, custodian, person, number to 9, level, hundredths,
     // place, viewer, many, seed, end of a hold; a sign by its choices in brackets.
     private static final String[] ARGUMENTS = {
         "", "", "[abc ?A]", "", "cdxrq", "p", "pb", "p", "p", "p", "cde", "pp", "p", "p", "pph", "h", "pp", "pp", "p",
-        "[wpn?]n", "[aot?]mm", "mn", "mb", "mp", "tt", "ptb", "p", "t[fa?]", "x[lo-?]", "p[pn-?]", "p", "p", "t", "p",
+        "[wpn?]n", "[aot?]mk", "mn", "mb", "mp", "tt", "ptb", "p", "t[fa?]", "x[lo-?]", "p[pn-?]", "p", "p", "t", "p",
         "p", "p", "p", "p", "pn", "ld", "pl", "d", "vp", "pb", "p", "", "tymz", "", "", "", ""};
 
     private final Random random;
@@ -127,6 +127,7 @@ public final class RandomRunsTest {
             case 'q': return random.nextInt(2) == 0 ? -1 : random.nextInt(Math.max(papers, 1));
             case 't': return random.nextInt(random.nextBoolean() ? 2 : 6);
             case 'm': return random.nextInt(Math.max(terms, 1));
+            case 'k': return random.nextInt(4) == 0 ? wild() : random.nextInt(terms + 2);
             case 'b': return random.nextInt(3) - 1;
             case 'c': return random.nextInt(6);
             case 'd': return random.nextInt(6);

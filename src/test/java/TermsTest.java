@@ -7,6 +7,7 @@ public final class TermsTest {
         pairs();
         termExceptionsInOrder();
         joinedTerms();
+        joinedByNotAlone();
         revising();
         families();
         kit.finish();
@@ -115,7 +116,9 @@ public final class TermsTest {
         kit.due("20: no such term and kind", Kit.INDEX, () -> x.joined('x', 7, 0));
         kit.dueIfMissing("20: joined", t -> x.joined('a', t, 0), -1, 7, 8);
         kit.dueIfMissing("20: joined", t -> x.joined('a', 0, t), -1, 7, 8);
-        kit.dueIfMissing("20: joined by t", t -> x.joined('t', 0, t), -1, 7, 8);
+        kit.dueIfMissing("20: joined by o", t -> x.joined('o', 0, t), -1, 7, 8);
+        kit.dueIfMissing("20: joined by no kind", t -> x.joined('x', 0, t), -1, 7, 8);
+        kit.dueIfMissing("20: joined by t", t -> x.joined('t', t, 0), -1, 7, 8);
         for (char kind : new char[] {'w', 'p', 'n', 'A', 0}) {
             kit.due("20: kind " + (int) kind, Kit.ARGUMENT, () -> x.joined(kind, 0, 0));
         }
@@ -125,6 +128,36 @@ public final class TermsTest {
         kit.due("20: full, no kind", Kit.ARGUMENT, () -> x.joined('w', 0, 0));
         kit.due("20: full, no term", Kit.INDEX, () -> x.joined('t', 8, 0));
         kit.due("20: full", Kit.STATE, () -> x.joined('t', 0, 0));
+        kit.due("20: full, and another that is not there", Kit.STATE, () -> x.joined('t', 0, 8));
+    }
+
+    /** By 't' the other term has no meaning: none that is there, its own number, one that comes later. */
+    private static void joinedByNotAlone() {
+        Discoverhall x = Kit.hallWith("a b", "a", "b", "c");
+        Kit.addPart(x, "d", 3);
+        termed(x, "a", 'w', 0);
+        int[] others = {-1, 2, 4, 8, Integer.MAX_VALUE, Integer.MIN_VALUE};
+        for (int i = 0; i < others.length; i++) {
+            int added = i + 1;
+            int other = others[i];
+            kit.due("20: not, with the other " + other, added, () -> x.joined('t', 0, other));
+        }
+        termed(x, "b", 'w', 0);
+        for (int i = 1; i <= others.length; i++) {
+            int term = i;
+            kit.due("22: hits of not " + term, 3, () -> x.hits(term, false));
+            kit.due("23: not one with a " + term, true, () -> x.isHit(term, 2));
+            kit.due("23: one with a " + term, false, () -> x.isHit(term, 0));
+            kit.due("21: of another kind " + term, Kit.UNSUPPORTED, () -> x.revise(term, 1));
+        }
+        kit.due("22: with families", 3, () -> x.hits(1, true));
+        kit.due("50: with others that are not there", true, () -> x.isSound());
+        Kit.typed(x, "d");
+        kit.due("21: the one is revised", 2, () -> x.revise(0, 0));
+        kit.due("22: not follows", 4, () -> x.hits(4, false));
+        kit.due("22: not follows, with families", 5, () -> x.hits(4, true));
+        kit.due("46: a sample by it", 4, () -> x.sample(0, 5, 4, 7));
+        kit.due("50: revised", true, () -> x.isSound());
     }
 
     private static void revising() {
