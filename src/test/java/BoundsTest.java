@@ -162,16 +162,19 @@ public final class BoundsTest {
 
     /** "100 times how many both have is at least so many times how many at least one of them has" */
     private static void nearExactly() {
-        String all = "a b c d e f g h i j k l m n o p q r s t u v w x y z";
-        for (int shared = 1; shared <= 25; shared++) {
-            // The one has the first shingles of 25, the other has all.
-            Discoverhall x = Kit.hallWith(all.substring(0, 2 * shared + 1), all);
-            int by = 4 * shared;
-            kit.due("14: " + shared + " of 25 by " + by, true, () -> x.areNear(0, 1, by));
-            kit.due("15: " + shared + " of 25 by " + by, 1, () -> x.groups(by));
-            kit.due("14: " + shared + " of 25 by one more", by == 100 ? Kit.ARGUMENT : false,
-                () -> x.areNear(1, 0, by + 1));
-            kit.due("15: " + shared + " of 25 by one more", by == 100 ? Kit.ARGUMENT : 2, () -> x.groups(by + 1));
+        // 30 words, of which each two behind each other stand there once.
+        String all = "a b c d e f g h i j k l m n o p q r s t u v w x y z a c e g";
+        for (int any = 1; any <= 29; any++) {
+            for (int both = 1; both <= any; both++) {
+                String names = "14: " + both + " of " + any + " by ";
+                // The one has the first shingles of those that the other has.
+                Discoverhall x = Kit.hallWith(all.substring(0, 2 * both + 1), all.substring(0, 2 * any + 1));
+                int by = 100 * both / any;
+                kit.due(names + by, true, () -> x.areNear(0, 1, by));
+                kit.due(names + "one more", by == 100 ? Kit.ARGUMENT : false, () -> x.areNear(1, 0, by + 1));
+                kit.due(names + by + ", groups", 1, () -> x.groups(by));
+                kit.due(names + "one more, groups", by == 100 ? Kit.ARGUMENT : 2, () -> x.groups(by + 1));
+            }
         }
         Discoverhall none = Kit.hallWith("a b", "c d");
         kit.due("14: none of 2", false, () -> none.areNear(0, 1, 1));
@@ -234,7 +237,7 @@ public final class BoundsTest {
         Discoverhall x = new Discoverhall();
         for (int between = 0; between < 12; between++) {
             Kit.add(x, "a " + "x ".repeat(between) + "b");
-            Kit.add(x, "y b " + "x ".repeat(between) + "a");
+            Kit.add(x, "b " + "x ".repeat(between) + "a");
         }
         Kit.typed(x, "a b").term('n', 1);
         for (int apart = 1; apart <= 9; apart++) {
@@ -279,7 +282,7 @@ public final class BoundsTest {
 
     /** "at most 6 pairs of them bar each other" */
     private static void mostPairs() {
-        int[][] pairs = {{0, 1}, {2, 1}, {2, 3}, {4, 3}, {4, 5}, {0, 5}};
+        int[][] pairs = {{0, 1}, {2, 1}, {2, 3}, {4, 3}, {4, 5}, {5, 0}};
         Discoverhall x = new Discoverhall();
         for (int i = 0; i < pairs.length; i++) {
             int[] pair = pairs[i];

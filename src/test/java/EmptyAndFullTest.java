@@ -304,6 +304,10 @@ public final class EmptyAndFullTest {
         kit.due("15: none hang together", 24, () -> row.groups(34));
         row.drop(12);
         kit.due("15: a row with a gap", 2, () -> row.groups(33));
+        Discoverhall late = Kit.hallWith("a b", "x y", "c d", "a b", "c d", "x y", "a b", "a b c d", "c d");
+        kit.due("15: two of three hang together by a later one", 2, () -> late.groups(33));
+        late.drop(7);
+        kit.due("15: three without it", 3, () -> late.groups(33));
     }
 
     /** "with all that are parts of it, of these, and so on" */
@@ -346,12 +350,10 @@ public final class EmptyAndFullTest {
 
     /** "and so what that one includes" */
     private static void longestThread() {
-        Discoverhall x = new Discoverhall();
-        for (int words = 0; words <= 30; words++) {
-            Kit.add(x, THIRTY.substring(Math.min(60 - 2 * words, 59)));
-        }
-        for (int i = 1; i <= 30; i++) {
-            int paper = i;
+        Discoverhall x = Kit.hallWith("");
+        for (int words = 1; words <= 16; words++) {
+            int paper = words;
+            Kit.add(x, THIRTY.substring(60 - 2 * words));
             x.answer(paper, paper - 1);
             kit.due("7: a word more", paper, () -> x.words(paper));
             kit.due("17: the one ahead", true, () -> x.includes(paper, paper - 1));
@@ -359,10 +361,10 @@ public final class EmptyAndFullTest {
             kit.due("17: not itself", false, () -> x.includes(paper, paper));
             kit.due("18: nothing", 0, () -> x.lost(paper));
         }
-        x.bad(15, true);
-        kit.due("17: past a bad one", false, () -> x.includes(30, 14));
-        kit.due("17: up to a bad one", true, () -> x.includes(30, 15));
-        kit.due("17: ahead of a bad one", true, () -> x.includes(14, 0));
+        x.bad(8, true);
+        kit.due("17: past a bad one", false, () -> x.includes(16, 7));
+        kit.due("17: up to a bad one", true, () -> x.includes(16, 8));
+        kit.due("17: ahead of a bad one", true, () -> x.includes(7, 0));
         kit.due("18: the one ahead of a bad one", 1, () -> x.lost(0));
     }
 

@@ -7,8 +7,9 @@ import java.util.Random;
  * that threw, and must answer all others as the first one does, since a call that throws changes nothing.
  */
 public final class RandomRunsTest {
-    private static final int RUNS = 300;
-    private static final int STEPS = 260;
+    private static final int RUNS = 500;
+    // An object is used for so many calls; what later ones answer is free.
+    private static final int CALLS = 512;
     private static final String[] WORDS = {"a", "b", "ab", "c", "abc", "d"};
     // What each call takes: paper, tag, term, a term or often none, day, boolean, custodian, person, number to 9, level, hundredths,
     // place, viewer, many, seed, end of a hold; a sign by its choices in brackets.
@@ -23,6 +24,7 @@ public final class RandomRunsTest {
     private final Discoverhall hall = new Discoverhall();
     private final Discoverhall spared = new Discoverhall();
     private final Model model = new Model();
+    private int calls;
     private int papers;
     private int terms;
     private String lastText = "";
@@ -46,7 +48,7 @@ public final class RandomRunsTest {
     }
 
     private boolean agrees() {
-        for (int step = 0; step < STEPS && isRight; step++) {
+        while (calls < CALLS && isRight) {
             int roll = random.nextInt(10);
             if (roll < 3 && papers < mostPapers) {
                 addPaper();
@@ -143,9 +145,10 @@ public final class RandomRunsTest {
     }
 
     private void call(int kind, int... a) {
-        if (!isRight) {
+        if (!isRight || calls == CALLS) {
             return;
         }
+        calls++;
         Object want = Kit.answerOf(() -> onModel(model, kind, a));
         Object got = Kit.answerOf(() -> onHall(hall, kind, a));
         Object again = want instanceof String ? want : Kit.answerOf(() -> onHall(spared, kind, a));

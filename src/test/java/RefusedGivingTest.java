@@ -86,7 +86,7 @@ public final class RefusedGivingTest {
         due.refused("37: no paper, no word", Kit.INDEX, () -> Halls.retyped(Halls.busy(), ""), x -> x.black(-1));
         due.refused("37: dropped, two words", Kit.INDEX, () -> Halls.retyped(Halls.busy(), "a b"),
             x -> x.black(Halls.DROPPED));
-        for (String text : new String[] {"", "  ", "a b", "a a", "a b c"}) {
+        for (String text : new String[] {"", "  ", "b a", "c c", "b c a"}) {
             due.refused("37: black by '" + text + "'", Kit.UNSUPPORTED, () -> Halls.retyped(Halls.busy(), text),
                 x -> x.black(1));
         }
