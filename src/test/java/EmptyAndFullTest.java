@@ -1,4 +1,6 @@
 import java.math.BigInteger;
+import java.util.ArrayList;
+import java.util.List;
 
 /**
  * The empty and the full: a hall without anything, papers without words, bad ones, a family and a thread of one, halls
@@ -201,6 +203,12 @@ public final class EmptyAndFullTest {
         kit.due("38: no place in a bad page", Kit.NO_ELEMENT, () -> x.shown(1, 0));
         x.bad(1, false);
         kit.due("38: good again", 'b', () -> x.shown(1, 0));
+        x.tag(2, 3, true);
+        Kit.addPart(x, "d", 1);
+        kit.due("32: the one that has the tag is bad, others of its family are good", 0, () -> x.give(3));
+        kit.due("33: not given by that", Kit.NO_ELEMENT, () -> x.number(3));
+        x.bad(2, false);
+        kit.due("32: it is good now", 1, () -> x.give(3));
         x.bad(0, false);
         kit.due("32: good now", 1, () -> x.give(0));
         kit.due("34: no slip", false, () -> x.isSlip(0));
@@ -325,6 +333,11 @@ public final class EmptyAndFullTest {
         Kit.typed(x, "b").term('w', 0);
         kit.due("22: one alone", 1, () -> x.hits(0, false));
         kit.due("22: all of its family", 40, () -> x.hits(0, true));
+        Kit.typed(x, "a").term('w', 0);
+        x.joined('o', 0, 1);
+        x.joined('t', 0, 0);
+        kit.due("22: two of its family, each paper once", 40, () -> x.hits(2, true));
+        kit.due("22: all but one of its family, each paper once", 40, () -> x.hits(3, true));
         x.tag(39, 0, true);
         kit.due("32: all of its family", 40, () -> x.give(0));
         for (int i = 0; i < 40; i++) {
@@ -518,22 +531,36 @@ public final class EmptyAndFullTest {
     /** "z becomes z times 48271 modulo 2147483647": no product wraps around */
     private static void sampleDoesNotWrap() {
         Discoverhall x = new Discoverhall();
+        List<Integer> without = new ArrayList<>();
         for (int i = 0; i < 40; i++) {
             Kit.add(x, i % 3 == 0 ? "a" : "b");
+            without.add(i);
         }
         Kit.typed(x, "a").term('w', 0);
+        dueSamples(x, "all", without);
+        for (int paper : new int[] {0, 3, 17, 39}) {
+            x.tag(paper, 4, true);
+            without.remove(Integer.valueOf(paper));
+        }
+        dueSamples(x, "those without a tag", without);
+        for (int paper : new int[] {1, 3, 9, 20, 38}) {
+            x.drop(paper);
+            without.remove(Integer.valueOf(paper));
+        }
+        dueSamples(x, "those that are there", without);
+    }
+
+    private static void dueSamples(Discoverhall x, String what, List<Integer> without) {
         for (int seed : new int[] {1, 44488, 44489, 65536, 1000000007, 2147483646, 2147483645, 1073741824}) {
             for (int many : new int[] {1, 2, 7, 20}) {
-                kit.due("46: seed " + seed + ", many " + many, sampled(seed, many), () -> x.sample(0, many, 0, seed));
+                kit.due("46: " + what + ", seed " + seed + ", many " + many, sampled(without, many, seed),
+                    () -> x.sample(4, many, 0, seed));
             }
         }
     }
 
-    private static int sampled(int seed, int many) {
-        java.util.List<Integer> left = new java.util.ArrayList<>();
-        for (int i = 0; i < 40; i++) {
-            left.add(i);
-        }
+    private static int sampled(List<Integer> without, int many, int seed) {
+        List<Integer> left = new ArrayList<>(without);
         BigInteger z = BigInteger.valueOf(seed);
         int having = 0;
         for (int i = 0; i < many; i++) {

@@ -76,8 +76,10 @@ public final class FaceTest {
         }
         for (Field field : face.getDeclaredFields()) {
             kit.due(field.getName() + " is private", true, () -> Modifier.isPrivate(field.getModifiers()));
+            dueFinal(field);
         }
         classesInside(face);
+        privateNames(face);
         kit.finish();
     }
 
@@ -111,25 +113,35 @@ public final class FaceTest {
         return counts.toString();
     }
 
-    /** LANGUAGE.md, rules 1 and 5: what is inside is static, hidden, and names no method as the face does. */
+    /** LANGUAGE.md, rules 1 and 5: no class inside is shown, and no static state changes. */
     private static void classesInside(Class<?> face) {
+        for (Class<?> inside : face.getDeclaredClasses()) {
+            int is = inside.getModifiers();
+            kit.due(inside.getName() + " is not shown", false,
+                () -> Modifier.isPublic(is) || Modifier.isProtected(is));
+            for (Field field : inside.getDeclaredFields()) {
+                dueFinal(field);
+            }
+        }
+    }
+
+    private static void dueFinal(Field field) {
+        int is = field.getModifiers();
+        kit.due(field.getName() + " is final if it is static", true,
+            () -> !Modifier.isStatic(is) || Modifier.isFinal(is));
+    }
+
+    /** LANGUAGE.md, rule 1: no private method bears the name of a public one. */
+    private static void privateNames(Class<?> face) {
         Set<String> names = new HashSet<>();
         for (Method method : face.getDeclaredMethods()) {
             if (Modifier.isPublic(method.getModifiers())) {
                 names.add(method.getName());
             }
         }
-        for (Class<?> inside : face.getDeclaredClasses()) {
-            int is = inside.getModifiers();
-            kit.due(inside.getName(), true, () -> Modifier.isStatic(is) && Modifier.isPrivate(is));
-            for (Method method : inside.getDeclaredMethods()) {
-                kit.due(inside.getName() + "." + method.getName(), false, () -> names.contains(method.getName()));
-            }
-            for (Field field : inside.getDeclaredFields()) {
-                int has = field.getModifiers();
-                kit.due(field.getName() + " is final if it is static", true,
-                    () -> !Modifier.isStatic(has) || Modifier.isFinal(has));
-            }
+        for (Method method : face.getDeclaredMethods()) {
+            kit.due(method.getName() + " is not the name of a public one too", false,
+                () -> Modifier.isPrivate(method.getModifiers()) && names.contains(method.getName()));
         }
     }
 }
