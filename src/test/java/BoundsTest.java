@@ -234,29 +234,34 @@ public final class BoundsTest {
 
     /** "at two unlike places no more than so many apart", "in either order" */
     private static void apartExactly() {
-        Discoverhall x = new Discoverhall();
-        for (int between = 0; between < 12; between++) {
-            Kit.add(x, "a " + "x ".repeat(between) + "b");
-            Kit.add(x, "b " + "x ".repeat(between) + "a");
-        }
-        Kit.typed(x, "a b").term('n', 1);
-        for (int apart = 1; apart <= 9; apart++) {
-            int by = apart;
-            x.wipe();
-            Kit.typed(x, "a b").revise(0, apart);
-            kit.due("22: how many by " + by, 2 * by, () -> x.hits(0, false));
-            for (int order = 0; order < 2; order++) {
-                int within = 2 * (apart - 1) + order;
-                kit.due("23: " + by + " apart", true, () -> x.isHit(0, within));
-                kit.due("23: one more than " + by + " apart", false, () -> x.isHit(0, within + 2));
-            }
-        }
+        dueApart("");
+        dueApart("y z ");
         Discoverhall same = Kit.hallWith("a", "a a", "a x a", "b a b");
         Kit.typed(same, "a a").term('n', 1);
         boolean[] due = {false, true, false, false};
         for (int i = 0; i < due.length; i++) {
             int paper = i;
             kit.due("23: two unlike places in " + paper, due[paper], () -> same.isHit(0, paper));
+        }
+    }
+
+    private static void dueApart(String ahead) {
+        Discoverhall x = new Discoverhall();
+        for (int between = 0; between < 10; between++) {
+            Kit.add(x, ahead + "a " + "x ".repeat(between) + "b");
+            Kit.add(x, ahead + "b " + "x ".repeat(between) + "a");
+        }
+        Kit.typed(x, "a b").term('n', 1);
+        for (int apart = 1; apart <= 9; apart++) {
+            int by = apart;
+            String name = by + " apart, behind '" + ahead + "'";
+            Kit.typed(x, "a b").revise(0, apart);
+            kit.due("22: how many by " + name, 2 * by, () -> x.hits(0, false));
+            for (int order = 0; order < 2; order++) {
+                int within = 2 * (apart - 1) + order;
+                kit.due("23: " + name, true, () -> x.isHit(0, within));
+                kit.due("23: one more than " + name, false, () -> x.isHit(0, within + 2));
+            }
         }
     }
 
